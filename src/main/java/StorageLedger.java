@@ -951,7 +951,8 @@ public final class StorageLedger {
 
         /** The reader has seen to it that so many blocks can go; a text has room for few grants. */
         void grant(int pool, int count) {
-            map.pick(LOWEST, FREE, count);
+            map.pickNothing();
+            map.pickLowest(FREE, count, 0);
             book(FREE, pool, count, 0, Journal.TRANSFER);
         }
 
@@ -1329,13 +1330,13 @@ public final class StorageLedger {
             picked[block] = true;
         }
 
-        private void pickNothing() {
+        void pickNothing() {
             for (int block = 0; block < MAX_BLOCKS; block++) {
                 picked[block] = false;
             }
         }
 
-        private void pickLowest(int pool, int wanted, int start) {
+        void pickLowest(int pool, int wanted, int start) {
             int left = wanted;
             for (int block = start; block < count && left > 0; block++) {
                 if (pools[block] == pool) {

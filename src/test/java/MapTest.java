@@ -122,6 +122,17 @@ public final class MapTest {
         picks(x, 3, 2, "6 7");
         picks(x, 3, 3, "1 2 3");
         picks(x, 3, 5, "1 2 3 4 6");
+        StorageLedger first = mapped("1010");
+        picks(first, 3, 2, "0 2");
+        first.advance(1);
+        first.corrupt(2, 1);
+        picks(first, 2, 1, "0");
+        first.corrupt(0, 1);
+        first.corrupt(1, 1);
+        first.advance(1);
+        first.corrupt(1, 1);
+        first.corrupt(2, 1);
+        picks(first, 2, 2, "0 1");
         StorageLedger whole = Check.ledger("blocks 200");
         whole.setPick(3);
         Check.same("a run of all blocks", whole.wouldPick(0, 200, 199), 199);
@@ -153,6 +164,8 @@ public final class MapTest {
         Check.same("fragmentation is a float", y.fragmentation(1), 1f - 2f / 7f);
         Check.same("one run", mapped("111").fragmentation(1), 0f);
         Check.same("one block at the end", mapped("0001").runCount(1), 1);
+        Check.same("two blocks at the end", mapped("0011").runCount(1), 1);
+        Check.same("one block at the start", mapped("1001").runCount(1), 2);
         for (int pool : new int[] {-1, 3}) {
             Check.index("runCount", () -> x.runCount(pool));
             Check.index("longestRun", () -> x.longestRun(pool));

@@ -78,13 +78,31 @@ public final class TextTest {
     }
 
     private static void promise3LoadBeginsANewLedger() {
-        StorageLedger x = Check.ledger("blocks 10;pool a 8 100;grant a 5;pick highest");
+        StorageLedger x = new StorageLedger();
+        use(x);
+        x.saveSnapshot(1);
+        newLedger(x);
+        Check.same("the snapshots stay", x.restoreSnapshot(1), 3);
+        Check.same("the snapshot's map", Check.map(x), "0111000000");
+        // However often: no ledger may show anything of those that were before it.
+        use(x);
+        use(x);
+        newLedger(x);
+        use(x);
+        newLedger(x);
+        newLedger(x);
+    }
+
+    private static void use(StorageLedger x) {
+        Check.load(x, "blocks 10;pool a 8 100;grant a 5;pick highest");
         x.transfer(1, 0, 1, 4);
         x.reserve(0, 1, 1, 5);
         x.advance(3);
         x.checkpoint();
         x.corrupt(0, 0);
-        x.saveSnapshot(1);
+    }
+
+    private static void newLedger(StorageLedger x) {
         Check.same("load anew", Check.load(x, "blocks 6;pool b 3 2"), 2);
         Check.same("time anew", x.now(), 0);
         Check.same("map anew", Check.map(x), "000000");
@@ -97,8 +115,9 @@ public final class TextTest {
         Check.same("checkpoints anew", x.checkpoint(), 0);
         Check.same("old name", Check.named(x, "a"), StorageLedger.NONE);
         Check.same("new name", Check.named(x, "b"), 1);
-        Check.same("the snapshots stay", x.restoreSnapshot(1), 3);
-        Check.same("the snapshot's map", Check.map(x), "0111000000");
+        Check.same("no entry to reverse", Check.batch(x, "back 0"), -1000);
+        Check.index("no entry to look at", () -> x.entryValue(0, 0));
+        Check.index("no reservation to look at", () -> x.reservationValue(0, 0));
     }
 
     private static void promise3LoadKeepsTheLedgerOnErrors() {
@@ -125,6 +144,8 @@ public final class TextTest {
         Check.same("third grant", Check.entry(x, 2), "0 1 3 0 0 0 -1");
         Check.same("block of a grant", x.entryBlock(2, 2), 7);
         Check.same("the last pick counts", x.setPick(0), 2);
+        StorageLedger y = Check.ledger("blocks 9;pick fitting;pick lowest");
+        Check.same("back to the first way", y.setPick(1), 0);
     }
 
     private static void promise3And4MisplacedWordsAndBytes() {

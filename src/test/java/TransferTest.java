@@ -157,6 +157,8 @@ public final class TransferTest {
     }
 
     private static void promise13Errors() {
+        StorageLedger exact = Check.ledger("blocks 6;pool a 1 0;pool b 1 0;grant a 1");
+        Check.same("the last block into the last room", exact.transferBlock(0, 2, 1), 1);
         StorageLedger x = Check.ledger("blocks 6;pool a 2 0;pool b 6 0;grant a 2");
         Check.same("is there already", x.transferBlock(0, 1, 1), WRONG_STATE);
         Check.same("no room", x.transferBlock(3, 1, 1), NO_ROOM);
