@@ -10,6 +10,7 @@ public final class BatchTest {
         numbersOutOfRange();
         wrongNames();
         readsTheWholeTextFirst();
+        reversesNoEntryOfAnEarlierLedger();
         Check.end("BatchTest");
     }
 
@@ -77,6 +78,8 @@ public final class BatchTest {
         bad("wait 1 1", 1, 7);
         bad("wait x", 1, 5);
         bad("waits 1", 1, 0);
+        bad("bait 1", 1, 0);
+        bad("love 1 a b 1", 1, 0);
         bad("pool c 1 1", 1, 0);
         bad("wait 1;grant a 1", 1, 7);
         bad("1", 1, 0);
@@ -135,6 +138,17 @@ public final class BatchTest {
         Check.same("time behind " + text, x.now(), 0);
         Check.same("entries behind " + text, x.entryCount(), 1);
         Check.same("buffer behind " + text, x.appendByte('a'), 1);
+    }
+
+    private static void reversesNoEntryOfAnEarlierLedger() {
+        StorageLedger x = new StorageLedger();
+        for (int again = 0; again < 3; again++) {
+            Check.load(x, "blocks 9;pool a 9 0;grant a 3");
+            Check.same("back 1 where there is entry 0 alone", Check.batch(x, "back 1"), -1000);
+            Check.load(x, "blocks 9;pool a 9 0;grant a 2");
+            x.transfer(0, 1, 1, 0);
+            Check.same("back 1", Check.batch(x, "back 1;move 1 free a 1"), 2);
+        }
     }
 
     private static void readsTheWholeTextFirst() {

@@ -63,6 +63,7 @@ public final class TextTest {
         good("blocks 4;pool pool 4 0;pool pick 4 0;pool grant 4 0;pool blocks 4 0"
                 + ";grant pick 1;grant grant 1", 5, "2300");
         good("blocks 3;pool abcdef 0 0", 2, "000");
+        good("blocks 3;pool tree 3 1;grant tree 1", 2, "100");
         good("blocks 3;pool fre 200 9999;pool freea 1 1", 3, "000");
         good("blocks 8;pool a 1 0;pool b 1 0;pool c 1 0;pool d 1 0;pool e 1 0;pool f 1 0;pool g 1 0"
                 + ";grant g 1;grant a 1", 8, "71000000");
@@ -155,6 +156,10 @@ public final class TextTest {
         bad("blocks  ", 1, 8);
         bad("block 5", 1, 0);
         bad(" blockss 5", 1, 1);
+        bad("clocks 5", 1, 0);
+        bad("blocks 5;tool a 1 1", 1, 9);
+        bad("blocks 5;kick lowest", 1, 9);
+        bad("blocks 5;pick coldest", 1, 14);
         bad("Blocks 5", 1, 0);
         bad("5", 1, 0);
         bad(";", 1, 0);

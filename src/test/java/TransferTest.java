@@ -8,6 +8,7 @@ public final class TransferTest {
 
     public static void main(String[] args) {
         promises9And10Time();
+        promise10EndOfTime();
         promise10Expiry();
         promise11SetPick();
         promise12Transfer();
@@ -33,6 +34,22 @@ public final class TransferTest {
         Check.argument("advance(1001)", () -> x.advance(1001));
         Check.argument("advance(-5)", () -> x.advance(-5));
         Check.same("time stays", x.now(), 1001);
+    }
+
+    /** Of no use within 512 calls, which do not get so far; but the document names the limit. */
+    private static void promise10EndOfTime() {
+        StorageLedger x = Check.ledger("blocks 9;pool a 9 100;grant a 1");
+        for (int thousand = 1; thousand < 1000; thousand++) {
+            x.advance(1000);
+        }
+        x.advance(999);
+        float rent = x.rent(1);
+        Check.same("beyond the last time", x.advance(2), FULL);
+        Check.same("time stays", x.now(), 999999);
+        Check.same("rent stays", x.rent(1), rent);
+        Check.same("to the last time", x.advance(1), 0);
+        Check.same("the last time", x.now(), 1000000);
+        Check.same("at the end", x.advance(1), FULL);
     }
 
     private static void promise10Expiry() {
