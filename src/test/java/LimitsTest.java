@@ -8,6 +8,7 @@ public final class LimitsTest {
         answersOnTheJournal();
         answersOnReservationsAndRents();
         picksInEachWay();
+        picksTheOldestOfAsManyTimesAsBlocks();
         copiesAll();
         Check.end("LimitsTest");
     }
@@ -111,6 +112,18 @@ public final class LimitsTest {
             Check.same("all of the last pool", x.wouldPick(7, 99, 98), 99);
             Check.same("more than there are", x.wouldPick(7, 100, 0), -1);
         }
+    }
+
+    private static void picksTheOldestOfAsManyTimesAsBlocks() {
+        StorageLedger x = Check.ledger("blocks 200;pick oldest");
+        for (int block = 198; block >= 0; block--) {
+            x.advance(1);
+            x.corrupt(block, 0);
+        }
+        Check.same("the oldest", x.wouldPick(0, 1, 0), 199);
+        Check.same("all but the youngest", x.wouldPick(0, 199, 0), 1);
+        Check.same("all", x.wouldPick(0, 200, 0), 0);
+        Check.same("the last of all", x.wouldPick(0, 200, 199), 199);
     }
 
     private static void copiesAll() {
