@@ -90,6 +90,11 @@ final class Check {
         return values.toString();
     }
 
+    /** How many answers have been compared. */
+    static int count() {
+        return right + wrong;
+    }
+
     static void end(String name) {
         System.out.println(name + ": " + right + " answers as due, " + wrong + " not");
         if (wrong != 0) {
