@@ -15,6 +15,7 @@ final class AuditBoundaries extends Boundaries {
         auditSet();
         auditOf();
         saveSnapshot();
+        snapshotOfAll();
         restoreSnapshot();
     }
 
@@ -100,6 +101,8 @@ final class AuditBoundaries extends Boundaries {
                 + " number of entries.");
         pools().does("checkpoint()", "transfer(0, 1, 1, 0)", "corrupt(9, 2)", "checkpoint()")
                 .due("auditOf(0, 1, 0)", -1).due("auditOf(0, 1, 1)", 0).due("auditOf(0, 1, 2)", 1);
+        Run.of(manyPools(7)).does("checkpoint()", "transfer(0, 7, 1, 0)", "checkpoint()")
+                .due("auditSet(0, 1)", 0).due("auditOf(0, 1, 7)", 0).due("auditOf(0, 1, 0)", 0);
         Doc.promise(53, "Returns its number");
         Run run = pools();
         for (int made = 0; made < 9; made++) {
@@ -162,7 +165,9 @@ final class AuditBoundaries extends Boundaries {
     private static void wrongCheckpoints(String call) {
         pools().still(call.replace("#", "0, 0"), ARGUMENT);
         Run two = pools().does("checkpoint()", "checkpoint()");
-        two.due(call.replace("#", "0, 0"), 0).due(call.replace("#", "0, 1"), 0).due(call.replace("#", "1, 1"), 0);
+        for (String pair : new String[] {"0, 0", "0, 1", "1, 1"}) {
+            two.due(call.replace("#", pair), 0);
+        }
         for (String pair : new String[] {"-1, 1", "-1, -1", "0, 2", "1, 2", "2, 2", "1, 0", "0, -1",
             MIN + ", " + MAX, MAX + ", " + MAX, MIN + ", 0", "0, " + MIN}) {
             two.still(call.replace("#", pair), ARGUMENT);
@@ -195,6 +200,20 @@ final class AuditBoundaries extends Boundaries {
                 .due("now()", 1000);
         Doc.promise(56, "Throws `IllegalArgumentException` if slot is out of range");
         refusedWith(rich().does("saveSnapshot(1)"), "saveSnapshot(#)", outside(0, 1), ARGUMENT);
+    }
+
+    private static void snapshotOfAll() {
+        Doc.promise(56, "Copies the ledger to a snapshot.");
+        // 80 blocks, 8 pools, 300 entries, 60 reservations and 10 checkpoints.
+        Run run = Run.of(manyPools(7).replace("blocks 8", "blocks 80").replace("g 1 0", "gzzzzz 80 1"));
+        for (int entry = 0; entry < 298; entry++) {
+            run.does(entry % 2 == 0 ? "transfer(0, 7, 1, 0)" : "transfer(7, 0, 1, 0)");
+        }
+        run.does("transfer(0, 7, 3, 7)", "transferBlock(79, 7, 2)").times(60, "reserve(0, 7, 1, 9)");
+        run.times(9, "checkpoint()").does("corrupt(78, 7)", "checkpoint()", "saveSnapshot(1)");
+        run.loads("blocks 1", 1).does("restoreSnapshot(1)");
+        run.entry(299, "0 7 1 2 0 0 -1").blocks(299, "79").blocks(298, "0 1 2");
+        run.reservation(59, "0 7 1 9 0").due("auditOf(8, 9, 7)", 1).due("nameByte(7, 5)", (int) 'z');
     }
 
     private static void restoreSnapshot() {

@@ -184,6 +184,13 @@ final class BatchBoundaries extends Boundaries {
         fails(Run.of(POOLS), "wait 1;back 1", 1);
         Run.of(POOLS).batches("move 1 a b 1;back 1", 2);
         fails(Run.fresh(), "back 0", 0);
+        // Nor is there an entry where an earlier ledger had one.
+        Run again = Run.fresh();
+        for (int round = 0; round < 2; round++) {
+            again.typed("blocks 9;pool a9 0;grant a2;grant a1").does("load()");
+        }
+        again.typed("blocks 9;pool a9 0;grant a3").does("load()");
+        fails(again, "back 1", 0);
     }
 
     private static void fullRows() {

@@ -80,6 +80,12 @@ final class JournalBoundaries extends Boundaries {
         Doc.promise(36, "Returns the block");
         Run all = Run.of("blocks 200;pool a 200 0;grant a 200").due("entryBlock(0, 199)", 199);
         all.due("entryBlock(0, 63)", 63).due("entryBlock(0, 64)", 64).due("entryBlock(0, 200)", NONE);
+        all.does("transfer(1, 0, 1, 0)").due("entryBlock(0, 199)", 199).blocks(1, "0");
+        Run last = Run.of("blocks 200;pool a200 1");
+        for (int entry = 0; entry < 299; entry++) {
+            last.does(entry % 2 == 0 ? "transfer(0, 1, 1, 0)" : "transfer(1, 0, 1, 0)");
+        }
+        last.due("transferBlock(199, 1, 0)", 299).blocks(299, "199").blocks(298, "0");
         // The entry keeps its blocks, wherever they are later.
         pools().does("transfer(1, 2, 1, 0)", "corrupt(1, 0)", "swap(2, 9)").blocks(0, "0 1 2");
         Doc.promise(36, "; NONE if there is no such index");
@@ -102,6 +108,7 @@ final class JournalBoundaries extends Boundaries {
         run.due("bookedAt(1, 29)", 11).due("bookedAt(1, 30)", 9).due("bookedAt(2, 39)", 0);
         run.due("bookedAt(2, 40)", 1).due("bookedAt(0, 40)", 10).due("bookedAt(2, 41)", 1);
         Run.fresh().due("bookedAt(0, 0)", 10);
+        journal(300).due("bookedAt(0, 0)", 4).due("bookedAt(1, " + MAX + ")", 0);
         Run.of("blocks 9;pool a 9 0").does("corrupt(0, 1)", "transfer(1, 0, 1, 0)").due("bookedAt(1, 0)", -1);
         Doc.promise(37, NO_POOL);
         refusedWith(entries(), "bookedAt(#, 0)", outside(3), INDEX);
@@ -121,6 +128,7 @@ final class JournalBoundaries extends Boundaries {
         entries().due("peak(1, 10, 10)", 7).due("peak(1, 10, 19)", 7).due("peak(1, 10, 20)", 11)
                 .due("peak(2, 10, 10)", 4).due("peak(2, 5, 9)", 0).due("peak(0, 30, 39)", 11)
                 .due("peak(2, 30, 40)", 1);
+        journal(300).due("peak(1, 0, " + MAX + ")", 1).due("peak(1, 1, " + MAX + ")", 0);
         Run same = Run.of("blocks 9;pool a 9 0").does("transfer(0, 1, 7, 0)", "transfer(1, 0, 7, 0)");
         same.due("peak(1, 0, 0)", 7).does("corrupt(0, 1)", "transfer(1, 0, 1, 0)", "advance(1)");
         same.due("peak(1, 1, 1)", -1).due("peak(0, 0, 0)", 10);
@@ -135,11 +143,13 @@ final class JournalBoundaries extends Boundaries {
                 + " interval.");
         entries().still("flow(0, 1, 0, 40)", 11).still("flow(1, 2, 0, 40)", 4);
         Doc.promise(39, "Returns the sum.");
-        Run run = entries().due("flow(0, 1, 0, 9)", 6).due("flow(0, 1, 1, 10)", 5).due("flow(0, 1, 11, 40)", 0);
+        Run run = entries().due("flow(0, 1, 0, 9)", 6).due("flow(0, 1, 1, 10)", 5);
+        run.due("flow(0, 1, 11, 40)", 0);
         run.due("flow(0, 1, 0, 0)", 6).due("flow(2, 1, 20, 20)", 4).due("flow(0, 2, 40, 40)", 1);
         run.due("flow(2, 1, 0, 19)", 0).due("flow(2, 1, 21, 40)", 0).due("flow(1, 1, 0, 40)", 0);
         run.due("flow(2, 0, 0, " + MAX + ")", 0);
         Run.fresh().due("flow(0, 0, 0, 0)", 0);
+        journal(300).due("flow(0, 1, 0, " + MAX + ")", 150).due("flow(1, 0, 0, 0)", 150);
         Doc.promise(39, ONE_POOL_MISSING);
         refusedWith(entries(), "flow(#, 0, 0, 0)", outside(3), INDEX);
         refusedWith(entries(), "flow(0, #, 0, 0)", outside(3), INDEX);
@@ -161,6 +171,7 @@ final class JournalBoundaries extends Boundaries {
         Doc.promise(40, "Returns the sum.");
         entries().due("reasonTotal(3, 11, 19)", 0).due("reasonTotal(3, 30, 30)", 2)
                 .due("reasonTotal(3, 31, " + MAX + ")", 0).due("reasonTotal(0, 0, 0)", 6);
+        journal(300).due("reasonTotal(0, 0, " + MAX + ")", 300);
         Doc.promise(40, REASON + ", or first is negative or greater than last");
         refusedWith(entries(), "reasonTotal(#, 0, 0)", outside(0, 9), ARGUMENT);
         intervals("reasonTotal(0, #)");
@@ -175,6 +186,8 @@ final class JournalBoundaries extends Boundaries {
         Doc.promise(41, "Returns the pool, the smallest of several");
         entries().due("busiest(20, 20)", 1).due("busiest(0, 0)", 0).due("busiest(40, 40)", 0)
                 .due("busiest(30, 30)", 0);
+        journal(300).due("busiest(0, " + MAX + ")", 0);
+        Run.of(manyPools(7)).does("transfer(0, 7, 1, 0)", "transfer(7, 6, 1, 0)").due("busiest(0, 0)", 7);
         Doc.promise(41, "; NONE if there are no entries in the interval.");
         entries().still("busiest(11, 19)", NONE).still("busiest(1, 9)", NONE)
                 .still("busiest(41, " + MAX + ")", NONE).due("busiest(9, 10)", 1).due("busiest(40, 41)", 0);

@@ -172,6 +172,7 @@ final class MapBoundaries extends Boundaries {
         mapped("1001101100").due("bestSwap(1)", 5);
         mapped("1000010000").due("bestSwap(1)", 4);
         mapped("0110110").due("bestSwap(1)", 1003);
+        mapped("011001").due("bestSwap(1)", 5000);
         Doc.promise(33, "; NONE if the longest run would not be longer than now with any of them.");
         mapped("00111").still("bestSwap(1)", NONE);
         mapped("111").still("bestSwap(1)", NONE).still("bestSwap(0)", NONE).still("bestSwap(2)", NONE);

@@ -28,6 +28,11 @@ final class ReservationBoundaries extends Boundaries {
                 "commit(0, 5)", "release(1)", "reserve(0, 1, 1, 9)", "advance(3)");
     }
 
+    /** As many reservations as there can be, all of them pending. */
+    private static Run allPending() {
+        return Run.of("blocks 60;pool a 60 0").times(60, "reserve(0, 1, 1, 9)");
+    }
+
     /** A ledger with so many reservations, none of which is pending. */
     private static Run reservations(int count) {
         return Run.of("blocks 4;pool a4 1").times(count, "reserve(0, 1, 1, 1)", "advance(1)");
@@ -171,8 +176,7 @@ final class ReservationBoundaries extends Boundaries {
         pools().does("reserve(1, 2, 1, 9)", "reserve(1, 2, 1, 9)", "reserve(0, 2, 1, 9)")
                 .due("release(1)", 2).due("release(2)", 1).due("release(0)", 0);
         ofEachState().due("release(3)", 0);
-        Run all = Run.of("blocks 60;pool a 60 0").times(60, "reserve(0, 1, 1, 9)");
-        all.due("release(59)", 59).due("release(0)", 58);
+        allPending().due("release(59)", 59).due("release(0)", 58);
         Doc.promise(17, "; WRONG_STATE if it is not pending.");
         ofEachState().still("release(0)", WRONG_STATE).still("release(1)", WRONG_STATE)
                 .still("release(2)", WRONG_STATE).does("release(3)").still("release(3)", WRONG_STATE);
@@ -215,8 +219,8 @@ final class ReservationBoundaries extends Boundaries {
         Doc.promise(43, "Returns a property of a reservation.");
         ofEachState().still("reservationValue(0, 2)", 1).still("reservationValue(2, 3)", 3);
         Doc.promise(43, "`what`: 0 the pool from which, 1 the pool to which it is; 2 the number of"
-                + " blocks; 3 the time at which it expires; 4 its state (0 pending, 1 committed, 2 released, 3"
-                + " expired)");
+                + " blocks; 3 the time at which it expires; 4 its state (0 pending, 1 committed, 2"
+                + " released, 3 expired)");
         ofEachState().reservation(0, "1 2 1 9 1").reservation(1, "0 1 1 9 2").reservation(2, "0 2 1 3 3")
                 .reservation(3, "0 1 1 9 0");
         Doc.promise(43, "Returns the property.");
@@ -239,6 +243,7 @@ final class ReservationBoundaries extends Boundaries {
                 .due("reservedFrom(1)", 3).does("advance(5)").due("reservedFrom(1)", 2).does("advance(1)")
                 .due("reservedFrom(1)", 0);
         Run.of("blocks 200;pool a 200 0").does("reserve(0, 1, 200, 9)").due("reservedFrom(0)", 200);
+        allPending().due("reservedFrom(0)", 60).due("available(0)", 0).due("room(1)", 0);
         Doc.promise(44, NO_POOL);
         refusedWith(pools(), "reservedFrom(#)", outside(3), INDEX);
     }
@@ -254,6 +259,7 @@ final class ReservationBoundaries extends Boundaries {
         Doc.promise(45, "Returns the reservation");
         pools().does("reserve(0, 1, 1, 9)").due("nextExpiry()", 0);
         ofEachState().due("nextExpiry()", 3);
+        allPending().due("nextExpiry()", 0).due("advance(8)", 0).due("advance(1)", 60);
         Doc.promise(45, "; NONE if none is pending.");
         Run.fresh().still("nextExpiry()", NONE);
         ofEachState().does("release(3)").still("nextExpiry()", NONE);
@@ -270,6 +276,7 @@ final class ReservationBoundaries extends Boundaries {
         Doc.promise(46, "`count`: 0 to 200");
         Run.of("blocks 200;pool a 200 0").does("reserve(0, 1, 200, 7)").due("whenAvailable(0, 200)", 7)
                 .due("whenAvailable(0, 1)", 7).due("whenAvailable(0, 0)", 0);
+        allPending().does("extend(59, 5)").due("whenAvailable(0, 59)", 9).due("whenAvailable(0, 60)", 14);
         Doc.promise(46, "Returns the first time, the present one or later");
         Run one = pools().does("advance(3)", "reserve(1, 2, 1, 9)");
         one.due("whenAvailable(1, 0)", 3).due("whenAvailable(1, 2)", 3).due("whenAvailable(1, 3)", 12);
@@ -306,6 +313,8 @@ final class ReservationBoundaries extends Boundaries {
         Doc.promise(48, "Returns the sum of the rents of all pools.");
         Run.fresh().still("totalRent()", 0f).does("advance(9)").due("totalRent()", 0f);
         pools().does("advance(3)").still("totalRent()", 12f);
+        Run.of(manyPools(7).replace("g 1 0", "g 1 100")).does("transfer(0, 7, 1, 0)", "advance(3)")
+                .due("rent(7)", 3f).due("totalRent()", 3f);
         Doc.promise(48, "Returns the sum, to 0f one after the other in the order of the pools.");
         // So chosen that another order of the same rents has another sum.
         Run run = Run.of("blocks 200;pool a 200 9999;pool b 9 100;pool c 9 100;grant a 200");

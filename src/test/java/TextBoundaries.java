@@ -21,6 +21,7 @@ final class TextBoundaries extends Boundaries {
         newObject();
         appendByte();
         load();
+        loadAgain();
         textError();
         poolNamed();
         counts();
@@ -348,6 +349,23 @@ final class TextBoundaries extends Boundaries {
                 .does("advance(7)", "reserve(0, 1, 1, 9)", "checkpoint()", "saveSnapshot(1)")
                 .refused("load()", "blocks 9;pool b 9 1;grant b 5;pick highest;", -100 - 43, 1)
                 .due("blockCount()", 6).due("rent(1)", 14f).due("setPick(0)", 2);
+    }
+
+    private static void loadAgain() {
+        // However often: no ledger may show anything of those that were before it.
+        String[] texts = {"blocks 8;pool a 4 100;grant a 3", "blocks 5;pool c 9 7;pick highest;grant c 2",
+            "blocks 3;pool b 3 0"};
+        String[][] uses = {
+            {"reserve(0, 1, 1, 2)", "advance(3)", "transfer(1, 0, 2, 1)", "checkpoint()", "setPick(2)"},
+            {"transfer(0, 1, 1, 4)", "reserve(1, 0, 1, 9)", "release(0)", "reverse(0)"},
+            {"checkpoint()", "corrupt(2, 1)", "reconcile()", "reserve(1, 0, 1, 9)", "advance(1)"}};
+        Doc.promise(3, "begins a new ledger at time 0.");
+        Run run = Run.fresh();
+        for (int round = 0; round < 6; round++) {
+            Run only = Run.of(texts[round % 3]);
+            run.typed(texts[round % 3]).does("load()").sameAs(only);
+            run.does(uses[round % 3]).sameAs(only.does(uses[round % 3]));
+        }
     }
 
     private static void textError() {

@@ -88,6 +88,8 @@ final class TransferBoundaries extends Boundaries {
         Doc.section(3, "Highest: those with the greatest numbers.");
         mapped("0110110").does("setPick(1)").picks(1, 1, "5").picks(1, 3, "2 4 5").picks(1, 4, "1 2 4 5")
                 .does("transfer(1, 2, 3, 0)").map("0120220");
+        mapped("1010").does("setPick(1)").picks(1, 2, "0 2");
+        Run.of("blocks 200;pick highest").due("wouldPick(0, 1, 0)", 199).due("wouldPick(0, 200, 0)", 0);
     }
 
     private static void oldest() {
@@ -98,6 +100,8 @@ final class TransferBoundaries extends Boundaries {
         // A block that comes again is young again.
         run.does("advance(1)", "transferBlock(4, 0, 0)", "transferBlock(4, 1, 0)");
         run.picks(1, 1, "5").picks(1, 4, "0 1 2 5");
+        Run.of("blocks 200;pick oldest").does("advance(1)", "corrupt(0, 0)").due("wouldPick(0, 199, 0)", 1)
+                .due("wouldPick(0, 200, 0)", 0).due("wouldPick(0, 200, 199)", 199);
         Doc.section(3, ", of equal times the smallest numbers.");
         mapped("0101011").does("setPick(2)").picks(1, 1, "1").picks(1, 2, "1 3").picks(1, 3, "1 3 5");
         mapped("0001010").does("advance(1)", "corrupt(1, 1)", "corrupt(2, 1)", "setPick(2)")
@@ -111,6 +115,9 @@ final class TransferBoundaries extends Boundaries {
         run.picks(1, 1, "9").picks(1, 2, "9 10").picks(1, 3, "5 6 7").picks(1, 4, "0 1 2 3");
         run.does("transfer(1, 2, 1, 0)").map("1111011102100");
         mapped("0111001111").does("setPick(3)").picks(1, 2, "1 2").picks(1, 4, "6 7 8 9");
+        Run.of("blocks 200;pool a 9 0;pick fitting").does("transferBlock(198, 1, 0)")
+                .due("wouldPick(0, 1, 0)", 199).due("wouldPick(0, 198, 197)", 197)
+                .due("wouldPick(0, 199, 198)", 199);
         Doc.section(3, ", of several the first one");
         mapped("0110110110").does("setPick(3)").picks(1, 1, "1").picks(1, 2, "1 2");
         mapped("1110110011").does("setPick(3)").picks(1, 2, "4 5");
