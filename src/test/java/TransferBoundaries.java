@@ -102,6 +102,12 @@ final class TransferBoundaries extends Boundaries {
         run.picks(1, 1, "5").picks(1, 4, "0 1 2 5");
         Run.of("blocks 200;pick oldest").does("advance(1)", "corrupt(0, 0)").due("wouldPick(0, 199, 0)", 1)
                 .due("wouldPick(0, 200, 0)", 0).due("wouldPick(0, 200, 199)", 199);
+        // As many times as there are blocks.
+        Run many = Run.of("blocks 200;pick oldest");
+        for (int block = 198; block >= 0; block--) {
+            many.does("advance(1)", "corrupt(" + block + ", 0)");
+        }
+        many.due("wouldPick(0, 1, 0)", 199).due("wouldPick(0, 199, 0)", 1).due("wouldPick(0, 200, 0)", 0);
         Doc.section(3, ", of equal times the smallest numbers.");
         mapped("0101011").does("setPick(2)").picks(1, 1, "1").picks(1, 2, "1 3").picks(1, 3, "1 3 5");
         mapped("0001010").does("advance(1)", "corrupt(1, 1)", "corrupt(2, 1)", "setPick(2)")
