@@ -1,3 +1,5 @@
+import java.lang.reflect.InvocationTargetException;
+import java.lang.reflect.Method;
 import java.util.concurrent.Callable;
 
 /** Compares answers with those that are due, and ends with exit code 1 if one was wrong. */
@@ -31,6 +33,16 @@ final class Check {
             return call.call();
         } catch (Exception e) {
             return "throws." + e.getClass().getSimpleName();
+        }
+    }
+
+    /** As answer, for a call by reflection. */
+    static Object invoked(Method method, Object on, Object... arguments)
+            throws IllegalAccessException {
+        try {
+            return method.invoke(on, arguments);
+        } catch (InvocationTargetException e) {
+            return "throws." + e.getCause().getClass().getSimpleName();
         }
     }
 

@@ -1,4 +1,3 @@
-import java.lang.reflect.InvocationTargetException;
 import java.lang.reflect.Method;
 import java.lang.reflect.Modifier;
 import java.util.ArrayList;
@@ -156,9 +155,7 @@ public final class ModelTest {
         try {
             Method method = on.getClass().getDeclaredMethod(name, types);
             method.setAccessible(true);
-            return method.invoke(on, arguments);
-        } catch (InvocationTargetException e) {
-            return "throws." + e.getCause().getClass().getSimpleName();
+            return Check.invoked(method, on, arguments);
         } catch (ReflectiveOperationException e) {
             throw new IllegalStateException(e);
         }
